@@ -113,6 +113,8 @@ public final class BaysTest {
         }
         Due.is("11 the 25th pane: no room", x.fit(panes, 3), -4);
         Due.is("11 at(3, 3)", x.at(3, 3), 24);
+        Due.is("14 the 24th pane", x.down(3, 3), panes);
+        Due.is("11 room for one", x.fit(panes, 3), 1);
     }
 
     private static void set() {
@@ -187,6 +189,9 @@ public final class BaysTest {
         Due.is("14 the column, under an odd piece", x.down(5, 1), 4);
         Due.is("14 the odd piece", x.down(5, 5), 5);
         Due.is("14 count(7)", x.count(7), 0);
+        for (int place = 1; place <= 5; place++) {
+            Due.is("14 nothing is at (5, " + place + ") any more", x.at(5, place), place == 3 ? 0 : -5);
+        }
         x.set(0, 3);
         x.set(0, 4);
         x.set(0, 6);

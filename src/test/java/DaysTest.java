@@ -11,6 +11,7 @@ public final class DaysTest {
         lack();
         more();
         best();
+        bestOfTwo();
         anyPlan();
         Due.end("DaysTest");
     }
@@ -188,6 +189,12 @@ public final class DaysTest {
         Due.is("29 18", x.pace(slow), 10);
         x.down(4, 3);
         Due.is("29 taken down, but it was set", x.pace(slow), 10);
+        x.down(4, 3);
+        int ten = x.gang(3, 10);
+        x.down(3, 3);
+        x.pass(1);
+        Due.is("28 10 set", x.work(ten, 3, panes), 10);
+        Due.is("29 10", x.pace(ten), 11);
     }
 
     private static void want() {
@@ -328,12 +335,35 @@ public final class DaysTest {
         Due.is("34 at the latest, two do of those of 0", x.best(), 32 | 64);
     }
 
+    private static void bestOfTwo() {
+        GlassPalace x = new GlassPalace();
+        x.want(5, 5, 30);
+        x.more(5, 3, 30, 10);
+        x.more(5, 2, 30, 10);
+        Due.is("34 two for 20", x.best(), 3);
+        x.more(5, 5, 30, 20);
+        Due.is("34 one for 20, that came later", x.best(), 4);
+        x.more(5, 9, 30, 21);
+        Due.is("34 one for 21", x.best(), 4);
+        x.more(5, 2, 30, 9);
+        Due.is("34 two for 19", x.best(), 17);
+        x.more(5, 3, 30, 10);
+        Due.is("34 two for 19 again: the least as bits", x.best(), 17);
+        x.more(5, 9, 30, 0);
+        Due.is("34 one for nothing", x.best(), 64);
+        x.more(4, 9, 30, 0);
+        Due.is("34 for nothing, too, but more", x.best(), 64);
+        x.want(4, 9, 30);
+        Due.is("34 both kinds", x.best(), 192);
+    }
+
     /** Any plan: LACK day by day from ahead(), BEST from lack() of all sets. */
     private static void anyPlan() {
         Due.Dice dice = new Due.Dice(32);
-        for (int run = 0; run < 80; run++) {
+        for (int run = 0; run < 300; run++) {
             GlassPalace x = new GlassPalace();
-            int rows = dice.roll(run % 2 == 0 ? 5 : 21);
+            int rows = dice.roll(run % 4 == 0 ? 21 : 4);
+            int kinds = dice.from(1, 5);
             int[][] wants = new int[rows][];
             int[][] adds = new int[dice.roll(9)][];
             for (int k = dice.roll(12); k > 0; k--) {
@@ -344,11 +374,11 @@ public final class DaysTest {
                 }
             }
             for (int k = 0; k < rows; k++) {
-                wants[k] = new int[] {dice.from(1, 5), dice.from(1, 9), dice.roll(40)};
+                wants[k] = new int[] {dice.from(1, kinds), dice.from(1, 40), dice.roll(40)};
                 x.want(wants[k][0], wants[k][1], wants[k][2]);
             }
             for (int k = 0; k < adds.length; k++) {
-                adds[k] = new int[] {dice.from(1, 5), dice.from(1, 60), dice.roll(20), dice.roll(4)};
+                adds[k] = new int[] {dice.from(1, kinds), dice.from(1, 40), dice.roll(12), dice.roll(4)};
                 Due.is("33 more", x.more(adds[k][0], adds[k][1], adds[k][2], adds[k][3]), k);
             }
             for (int k = 0; k < 3; k++) {

@@ -12,6 +12,7 @@ public final class LawTest {
         feed();
         lawRefusals();
         faults();
+        behindFaults();
         fullTexts();
         conditions();
         force();
@@ -117,6 +118,27 @@ public final class LawTest {
         fault("cut (!(!t=1)))", 13);
         fault("cut !!!!(t=1)", 8);
         fault("cut ((((!t=1))))", 8);
+    }
+
+    /** What was read of a text with a FAULT is no law. */
+    private static void behindFaults() {
+        GlassPalace x = new GlassPalace();
+        StringBuilder many = new StringBuilder("bar !f=1");
+        for (int k = 0; k < 15; k++) {
+            many.append("&!f=1");
+        }
+        for (int k = 0; k < 4; k++) {
+            Due.is("17 a clause, then a fault", Due.law(x, "pay 1;cut t=0;pack", 0), -28);
+            Due.is("17 many tests, then a fault", Due.law(x, many + "&", 0), -11 - many.length());
+        }
+        Due.is("17 another text", Due.law(x, "load 2;" + many, 0), 0);
+        Due.is("19 by its first clause", x.why(2, 0), 0);
+        Due.is("19 by its second clause", x.why(5, 0), 1);
+        Due.is("19 pay was not read", x.why(1, 0), -5);
+        Due.is("19 cut was not read", x.why(4, 0), -5);
+        Due.is("18 pay", x.force(1, 0, 0), 10);
+        Due.is("18 bar, foundry 1", x.force(5, 0, 1), 0);
+        Due.is("18 bar, foundry 2", x.force(5, 0, 2), 1);
     }
 
     private static void fullTexts() {

@@ -84,6 +84,15 @@ public final class LoadsTest {
         x.people(4, 44);
         Due.is("21 the column bears both", x.bears(5, 1), 312);
         Due.is("21 600 less 288: it holds", x.bears(5, 3), 1);
+        x.set(Due.lot(x, 3, 0, 1, 0), 4);
+        x.people(4, 43);
+        Due.is("21 311, a pane by 2", x.bears(5, 1), 311);
+        Due.law(x, "snow 4", 1);
+        x.pass(1);
+        Due.is("21 313, a pane by 4", x.bears(5, 1), 313);
+        Due.is("21 one more than 312", x.bears(5, 3), 0);
+        x.down(4, 3);
+        x.people(4, 44);
         Due.is("21 the one to the left bears its own alone", x.bears(4, 1), 132);
         Due.is("21 the girder alone", x.bears(5, 0), 180);
         Due.is("22 breaks()", x.breaks(), 0);

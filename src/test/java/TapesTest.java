@@ -74,10 +74,12 @@ public final class TapesTest {
         Due.is("44 it holds nothing still", x.item(0, 0, 0), -11);
         Due.is("44 tape(0, 3, 60)", x.tape(0, 3, 60), 1);
         Due.is("44 its last item", x.item(0, 59, 7), 1);
+        Due.is("44 its first item", x.item(0, 0, 7), 1);
         Due.is("44 refused", x.tape(0, 3, 61), -2);
         Due.is("44 as it was", x.read(0, 59), 7);
         Due.is("44 tape(0, 3, 60) anew", x.tape(0, 3, 60), 1);
         Due.is("44 all 0", x.read(0, 59), 0);
+        Due.is("44 all 0", x.read(0, 0), 0);
         x.item(0, 3, 5);
         Due.is("44 tape(0, 3, 3)", x.tape(0, 3, 3), 1);
         Due.is("44 behind its end", x.read(0, 3), NO);
