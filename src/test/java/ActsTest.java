@@ -203,27 +203,33 @@ public final class ActsTest {
 
     private static void anyActs() {
         Due.Dice dice = new Due.Dice(39);
-        GlassPalace x = new GlassPalace();
-        Part[] parts = new Part[60];
-        for (int i = 0; i < 60; i++) {
-            int kind = dice.roll(7);
-            int f = dice.roll(8);
-            int v = dice.roll(1000);
-            parts[i] = part(kind, i, f, v);
-            x.order(kind, f, 1, v);
-        }
-        int[] edges = {0, 1, -1, Integer.MAX_VALUE, Integer.MIN_VALUE, Integer.MAX_VALUE / 3 + 1, 1 << 30};
-        for (int i = 0; i < 60; i++) {
-            for (int act = 0; act < 3; act++) {
-                int value = dice.roll(2) == 0 ? edges[dice.roll(edges.length)] : dice.from(-3000, 3000);
-                RAN.clear();
-                int due = act == 0 ? parts[i].fits(value) : act == 1 ? parts[i].bears(value) : parts[i].ends(value);
-                Due.is("39 act(" + i + ", " + act + ", " + value + ")", x.act(i, act, value), due);
-                Due.is("43 count(9)", x.count(9), RAN.size());
-                int last = dice.roll(RAN.size());
-                Due.is("40 trace(" + last + ")", x.trace(last), RAN.get(last));
+        for (int run = 0; run < 4; run++) {
+            GlassPalace x = new GlassPalace();
+            Part[] parts = new Part[60];
+            for (int i = 0; i < 60; i++) {
+                int kind = dice.roll(7);
+                int f = dice.roll(8);
+                int v = dice.roll(1000);
+                parts[i] = part(kind, i, f, v);
+                x.order(kind, f, 1, v);
+            }
+            for (int i = run % 2; i < 60; i += 2) {
+                for (int act = 0; act < 3; act++) {
+                    anyAct(x, dice, parts[i], act);
+                }
             }
         }
+    }
+
+    private static void anyAct(GlassPalace x, Due.Dice dice, Part part, int act) {
+        int[] edges = {0, 1, -1, Integer.MAX_VALUE, Integer.MIN_VALUE, Integer.MAX_VALUE / 3 + 1, 1 << 30};
+        int value = dice.roll(2) == 0 ? edges[dice.roll(edges.length)] : dice.from(-3000, 3000);
+        RAN.clear();
+        int due = act == 0 ? part.fits(value) : act == 1 ? part.bears(value) : part.ends(value);
+        Due.is("39 act(" + part.i + ", " + act + ", " + value + ")", x.act(part.i, act, value), due);
+        Due.is("43 count(9)", x.count(9), RAN.size());
+        int last = dice.roll(RAN.size());
+        Due.is("40 trace(" + last + ")", x.trace(last), RAN.get(last));
     }
 
     private static void taken() {

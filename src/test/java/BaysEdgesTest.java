@@ -11,6 +11,7 @@ public final class BaysEdgesTest {
         trees();
         otherPiecesByTrees();
         girdersOfEveryBay();
+        girdersOnWrongColumns();
         panesAndGutters();
         oddOnesAnywhere();
         roomAtEachPlace();
@@ -157,6 +158,25 @@ public final class BaysEdgesTest {
                 x.down(b, 1);
                 Due.is("11 one to the RIGHT of " + b + " alone", x.fit(girders, b), -7);
             }
+        }
+    }
+
+    private static void girdersOnWrongColumns() {
+        for (int bits = 0; bits < 4; bits++) {
+            GlassPalace x = new GlassPalace();
+            int[] columns = {Due.lot(x, 1, 0, 5, 100), Due.lot(x, 6, 0, 5, 100)};
+            int girders = Due.lot(x, 2, 0, 5, 100);
+            int left = columns[bits & 1];
+            int right = columns[bits >> 1];
+            x.set(left, 27);
+            x.set(right, 28);
+            Due.is("11 a girder on columns, WRONG or not, " + bits, x.fit(girders, 27), 1);
+            Due.is("12 a girder on columns, WRONG or not, " + bits, x.set(girders, 27), 1);
+            Due.is("14 its column is needed, WRONG or not", x.down(27, 1), -3);
+            Due.is("14 that to the RIGHT is needed, WRONG or not", x.down(28, 1), -3);
+            Due.is("13 the LOT of its column", x.at(27, 1), left);
+            Due.is("14 the girder", x.down(27, 2), girders);
+            Due.is("14 that to the RIGHT", x.down(28, 1), right);
         }
     }
 
@@ -418,6 +438,7 @@ public final class BaysEdgesTest {
             Due.is("15 there is none", x.cut(1), -3);
             Due.is("15 its feet", x.cut(29), n);
             Due.is("15 there is none any more", x.cut(29), -3);
+            Due.is("3 of 0 feet then", x.bay(29, 1, 0), 0);
             Due.is("15 BAY 0", x.cut(0), n);
         }
         GlassPalace x = new GlassPalace();

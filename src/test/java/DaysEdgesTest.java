@@ -38,6 +38,7 @@ public final class DaysEdgesTest {
         moreNumbers();
         eightAdditions();
         bestOfNone();
+        bestAtTheLatest();
         bestOfFewest();
         bestOfAll();
         Due.end("DaysEdgesTest");
@@ -664,6 +665,18 @@ public final class DaysEdgesTest {
         Due.is("34 no ADDITIONS and a LACK", y.best(), -5);
         y.order(1, 0, 1, 0);
         Due.is("34 it will have come", y.best(), 0);
+    }
+
+    private static void bestAtTheLatest() {
+        GlassPalace x = new GlassPalace();
+        x.order(1, 0, 3, 100);
+        x.want(1, 3, 13);
+        Due.is("32 no LACK at the soonest", x.lack(0, 0, false), -5);
+        Due.is("34 a LACK at the latest: no set does", x.best(), -5);
+        x.more(1, 3, 13, 999);
+        Due.is("34 a LACK at the latest", x.best(), 1);
+        x.foundry(0, 1, 13);
+        Due.is("34 no LACK at the latest", x.best(), 0);
     }
 
     private static void bestOfFewest() {

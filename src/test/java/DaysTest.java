@@ -1,3 +1,6 @@
+import java.util.ArrayList;
+import java.util.List;
+
 /** Promises 27 to 34: gangs and their pace, what is wanted, what will have come, lacks, additions. */
 public final class DaysTest {
     public static void main(String[] args) {
@@ -357,35 +360,46 @@ public final class DaysTest {
         Due.is("34 both kinds", x.best(), 192);
     }
 
-    /** Any plan: LACK day by day from ahead(), BEST from lack() of all sets. */
+    /** Any plan: LACK day by day from ahead(), BEST from lack() of all sets; each on an object of its own. */
     private static void anyPlan() {
-        Due.Dice dice = new Due.Dice(32);
         for (int run = 0; run < 300; run++) {
-            GlassPalace x = new GlassPalace();
-            int rows = dice.roll(run % 4 == 0 ? 21 : 4);
-            int kinds = dice.from(1, 5);
-            int[][] wants = new int[rows][];
-            int[][] adds = new int[dice.roll(9)][];
-            for (int k = dice.roll(12); k > 0; k--) {
-                x.order(dice.roll(7), dice.roll(8), dice.from(1, 20), 0);
-                x.pass(dice.from(1, 3));
-                if (dice.roll(3) == 0) {
-                    x.come(x.count(1) - 1, x.count(0) - dice.roll(2));
-                }
-            }
-            for (int k = 0; k < rows; k++) {
-                wants[k] = new int[] {dice.from(1, kinds), dice.from(1, 40), dice.roll(40)};
-                x.want(wants[k][0], wants[k][1], wants[k][2]);
-            }
-            for (int k = 0; k < adds.length; k++) {
-                adds[k] = new int[] {dice.from(1, kinds), dice.from(1, 40), dice.roll(12), dice.roll(4)};
-                Due.is("33 more", x.more(adds[k][0], adds[k][1], adds[k][2], adds[k][3]), k);
-            }
+            List<int[]> wants = new ArrayList<>();
+            List<int[]> adds = new ArrayList<>();
+            GlassPalace x = planned(run, wants, adds);
+            bestOfAll(x, adds.toArray(new int[0][]));
+            Due.Dice dice = new Due.Dice(32 + run);
             for (int k = 0; k < 3; k++) {
-                lackDayByDay(x, dice.roll(1 << adds.length), dice.roll(2) == 0, wants, adds);
+                wants.clear();
+                adds.clear();
+                x = planned(run, wants, adds);
+                lackDayByDay(x, dice.roll(1 << adds.size()), dice.roll(2) == 0, wants.toArray(new int[0][]),
+                    adds.toArray(new int[0][]));
             }
-            bestOfAll(x, adds);
         }
+    }
+
+    private static GlassPalace planned(int run, List<int[]> wants, List<int[]> adds) {
+        Due.Dice dice = new Due.Dice(run);
+        GlassPalace x = new GlassPalace();
+        int kinds = dice.from(1, 5);
+        for (int k = dice.roll(12); k > 0; k--) {
+            x.order(dice.roll(7), dice.roll(8), dice.from(1, 20), 0);
+            x.pass(dice.from(1, 3));
+            if (dice.roll(3) == 0) {
+                x.come(x.count(1) - 1, x.count(0) - dice.roll(2));
+            }
+        }
+        for (int k = dice.roll(run % 4 == 0 ? 21 : 4); k > 0; k--) {
+            int[] want = {dice.from(1, kinds), dice.from(1, 40), dice.roll(40)};
+            x.want(want[0], want[1], want[2]);
+            wants.add(want);
+        }
+        for (int k = dice.roll(9); k > 0; k--) {
+            int[] add = {dice.from(1, kinds), dice.from(1, 40), dice.roll(12), dice.roll(4)};
+            Due.is("33 more", x.more(add[0], add[1], add[2], add[3]), adds.size());
+            adds.add(add);
+        }
+        return x;
     }
 
     private static void lackDayByDay(GlassPalace x, int set, boolean latest, int[][] wants, int[][] adds) {

@@ -37,6 +37,9 @@ public final class LawEdgesTest {
         greatestDay();
         lastClause();
         clausesOfOtherWords();
+        clausesOfOtherWordsThatDay();
+        manyFaults();
+        lawOn399();
         whyNumbers();
         whyEdges();
         Due.end("LawEdgesTest");
@@ -220,8 +223,8 @@ public final class LawEdgesTest {
     }
 
     private static void everyByteAtTheStart() {
-        GlassPalace x = new GlassPalace();
         for (int value = 0; value < 256; value++) {
+            GlassPalace x = new GlassPalace();
             boolean begins = "plscb".indexOf((char) value) >= 0;
             x.feed(value, 1);
             Due.is("17 byte " + value + " alone", x.law(0), begins ? -11 : -10);
@@ -315,8 +318,8 @@ public final class LawEdgesTest {
     }
 
     private static void letters() {
-        GlassPalace x = new GlassPalace();
         for (int value = 0; value < 256; value++) {
+            GlassPalace x = new GlassPalace();
             boolean begins = "tlcrdf!(".indexOf((char) value) >= 0;
             Palace.feed(x, value % 2 == 0 ? "cut " : "bar ");
             x.feed(value, 1);
@@ -332,8 +335,8 @@ public final class LawEdgesTest {
     }
 
     private static void relations() {
-        GlassPalace x = new GlassPalace();
         for (int value = 0; value < 256; value++) {
+            GlassPalace x = new GlassPalace();
             boolean begins = "<=>".indexOf((char) value) >= 0;
             Palace.feed(x, value % 2 == 0 ? "cut t" : "bar f");
             x.feed(value, 1);
@@ -608,9 +611,17 @@ public final class LawEdgesTest {
         Due.is("18 a number of three digits", mayCut("t>100", 0, 0, 60, 0), 0);
         Due.is("18 a number 0", mayCut("t>0", 0, 0, 60, 0), 1);
         Due.is("18 a number 0", mayCut("t<0", 0, 0, 0, 0), 0);
+        Due.is("18 a number 0, one of two", mayCut("t=60|t<0", 0, 0, 60, 0), 1);
+        Due.is("18 a number 0, one of two", mayCut("t<0|t=60", 0, 0, 60, 0), 1);
+        Due.is("18 a number 0, both of two", mayCut("t=60&!t<0", 0, 0, 60, 0), 1);
         Due.is("18 & binds more than |", mayCut("t=60|t=1&t=2", 0, 0, 60, 0), 1);
         Due.is("18 & binds more than |", mayCut("t=1&t=2|t=60", 0, 0, 60, 0), 1);
         Due.is("18 brackets bind most", mayCut("(t=60|t=1)&t=2", 0, 0, 60, 0), 0);
+        Due.is("18 brackets behind a sign", mayCut("t=60&(t=60)", 0, 0, 60, 0), 1);
+        Due.is("18 brackets behind a sign", mayCut("t=60&(t=60&(t=60&(t=60)))", 0, 0, 60, 0), 1);
+        Due.is("18 brackets behind a sign", mayCut("t=60&(t=1|(t=60&(t=1)))", 0, 0, 60, 0), 0);
+        Due.is("18 brackets behind a sign", mayCut("t=1|(t=60)", 0, 0, 60, 0), 1);
+        Due.is("18 ! within brackets", mayCut("t=60&(!t=60|!(t=1))", 0, 0, 60, 0), 1);
         Due.is("18 ! binds the next alone", mayCut("!t=1|t=1", 0, 0, 1, 0), 1);
         Due.is("18 ! binds the next alone", mayCut("!t=1&t=2", 0, 0, 1, 0), 0);
         Due.is("18 four of !", mayCut("!!!!t=1", 0, 0, 1, 0), 1);
@@ -678,6 +689,65 @@ public final class LawEdgesTest {
         Due.is("19 the later TEXT's own", x.why(2, 3), 100);
         Due.is("18 of none", x.force(3, 3, 0), 2);
         Due.is("19 of none", x.why(3, 3), -5);
+    }
+
+    private static void clausesOfOtherWordsThatDay() {
+        GlassPalace x = new GlassPalace();
+        Palace.law(x, "pay 1;load 2", 5);
+        Palace.law(x, "load 3", 5);
+        Palace.law(x, "snow 4;pay 6", 4);
+        Due.is("18 of that DAY the latest that has it: pay", x.force(1, 5, 0), 1);
+        Due.is("19 of that DAY the latest that has it: pay", x.why(1, 5), 0);
+        Due.is("18 of that DAY the latest that has it: load", x.force(2, 5, 0), 3);
+        Due.is("19 of that DAY the latest that has it: load", x.why(2, 5), 100);
+        Due.is("18 none of that DAY has it: snow", x.force(3, 5, 0), 4);
+        Due.is("19 none of that DAY has it: snow", x.why(3, 5), 200);
+        Due.is("18 the DAY ahead: pay", x.force(1, 4, 0), 6);
+        Due.is("18 the DAY ahead: load", x.force(2, 4, 0), 3);
+        Due.is("19 the DAY ahead: load", x.why(2, 4), -5);
+    }
+
+    /** What was read ahead of a FAULT takes no room from what is read later. */
+    private static void manyFaults() {
+        GlassPalace x = new GlassPalace();
+        String tests = "bar f=1" + times("|f=2", 15);
+        for (int k = 0; k < 4; k++) {
+            Due.is("17 a FAULT behind many tests", Palace.law(x, tests + "|", 0), -10 - tests.length() - 1);
+        }
+        Due.is("17 as many tests", Palace.law(x, tests, 0), 0);
+        Due.is("18 its first", x.force(5, 0, 1), 1);
+        Due.is("18 its others", x.force(5, 0, 2), 1);
+        Due.is("18 none of them", x.force(5, 0, 3), 0);
+    }
+
+    /** THE LAW of TODAY, where TODAY is 399: its d is 0. */
+    private static void lawOn399() {
+        GlassPalace x = new GlassPalace();
+        x.bay(9, 1, 60);
+        int columns = Due.lot(x, 1, 0, 9, 100);
+        int girders = Due.lot(x, 2, 0, 9, 999);
+        int panes = Due.lot(x, 3, 1, 9, 0);
+        x.set(columns, 29);
+        x.set(girders, 29);
+        x.set(panes, 29);
+        x.people(29, 1);
+        Palace.law(x, "pack 1;pay 7;load 50;snow 20;cut d=0;bar f=1&d=0", 399);
+        for (int n = 0; n < 8; n++) {
+            x.pass(n < 7 ? 50 : 48);
+        }
+        Due.is("43 TODAY", x.count(0), 398);
+        int shorter = Due.lot(x, 1, 0, 9, 99);
+        Due.is("21 the LAW is not in force on 398", x.bears(29, 0), 5);
+        Due.is("11 the LAW is not in force on 398", x.fit(shorter, 0), -5);
+        Due.is("15 the LAW is not in force on 398", x.cut(9), -3);
+        Due.is("7 the LAW is not in force on 398", x.of(panes, 7), 0);
+        Due.is("2 TODAY", x.pass(1), 399);
+        Due.is("21 in force on 399", x.bears(29, 0), 70);
+        Due.is("11 in force on 399", x.fit(shorter, 0), 1);
+        Due.is("15 in force on 399", x.cut(9), 60);
+        Due.is("7 in force on 399", x.of(panes, 7), 1);
+        Due.is("7 pay of its own DAY", x.of(shorter, 8), 90);
+        Due.is("7 pay of 399", x.of(x.order(0, 0, 9, 0), 8), 63);
     }
 
     // ---- 19

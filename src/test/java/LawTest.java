@@ -262,7 +262,7 @@ public final class LawTest {
         int calls = 0;
         for (int k = 0; k < 6000; k++) {
             String text = spoilt(dice, randomText(dice));
-            calls += 2 + text.length() / 4;
+            calls += 6 + text.length() / 2;
             if (calls > 450 || x.count(2) == 10) {
                 x = new GlassPalace();
                 calls = 0;

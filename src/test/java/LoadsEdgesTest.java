@@ -26,6 +26,7 @@ public final class LoadsEdgesTest {
         gutterOfMost();
         waterOfTheHourAhead();
         waterGoesRound();
+        waterOfBayNought();
         waterOfTheLastHour();
         leaksAboveFifty();
         leaksTogether();
@@ -190,11 +191,12 @@ public final class LoadsEdgesTest {
 
     private static void columnOfNoLength() {
         int[] lengths = {0, 1, 99};
-        for (int length : lengths) {
+        for (int k = 0; k < 2 * lengths.length; k++) {
+            int length = lengths[k / 2];
             GlassPalace x = new GlassPalace();
             int most = 600 - 3 * length;
             Palace.law(x, "pack 100;load " + most / 3 + ";snow 1", 0);
-            x.set(Due.lot(x, 1, 0, 1, length), 29);
+            x.set(Due.lot(x, k % 2 == 0 ? 1 : 6, 0, 1, length), 29);
             x.set(Due.lot(x, 2, 0, 1, 999), 29);
             x.people(29, 3);
             Due.is("21 a COLUMN of " + length + " feet", x.bears(29, 1), most);
@@ -513,6 +515,32 @@ public final class LoadsEdgesTest {
             Due.is("25 round about, BAY 17, HOUR " + hour, x.stands(17, hour), due17[hour]);
         }
         Due.is("25 round about, HOUR 23", x.stands(11, 23), 6);
+    }
+
+    /** BAY 0 has RAIN, gives and takes as every other one. */
+    private static void waterOfBayNought() {
+        GlassPalace x = new GlassPalace();
+        raise(x, 0, 999);
+        x.set(Due.lot(x, 1, 0, 1, 100), 2);
+        x.set(Due.lot(x, 2, 0, 1, 999), 1);
+        glaze(x, 0, 8);
+        glaze(x, 1, 8);
+        gutter(x, 1, 10);
+        x.rain(0, 60);
+        Due.is("25 RAIN in BAY 0", x.stands(0, 0), 60);
+        Due.is("25 a new GUTTER leads into its COLUMN, not to BAY 0", x.stands(0, 1), 60);
+        Due.is("26 LEAKS of BAY 0", x.leaks(0), 240);
+        Due.is("26 LEAKS of all: BAY 0 alone", x.leaks(-1), 240);
+        Due.is("24 to BAY 0", x.leads(1, 0), 1);
+        Due.is("25 it comes to BAY 0", x.stands(0, 1), 70);
+        Due.is("25 asked again: from no water on", x.stands(0, 0), 60);
+        Due.is("25 all of it comes to BAY 0", x.stands(0, 23), 120);
+        gutter(x, 0, 5);
+        x.leads(0, 6);
+        Due.is("25 BAY 0 gives to BAY 6, without PANES: gone", x.stands(0, 0), 55);
+        Due.is("25 gone", x.stands(6, 1), 0);
+        x.leads(0, 1);
+        Due.is("25 BAY 0 gives to BAY 1", x.stands(1, 1), 45);
     }
 
     private static void waterOfTheLastHour() {

@@ -553,6 +553,12 @@ public final class TapesEdgesTest {
             Due.is("47 other " + tape, x.shift(0, 0, tape, 0, 1), -1);
             Due.is("47 both " + tape, x.shift(tape, 0, tape, 0, 1), -1);
         }
+        x.tape(3, 4, 3);
+        x.tape(4, 4, 2);
+        x.item(3, 2, 9);
+        Due.is("47 booleans", x.shift(3, 1, 4, 0, 2), 2);
+        Due.is("46 booleans", x.read(4, 0), 0);
+        Due.is("46 booleans", x.read(4, 1), 1);
         Due.is("47 TAPE 5 holds nothing", x.shift(5, 0, 0, 0, 1), -11);
         x.tape(5, 2, 60);
         Due.is("47 to TAPE 5", x.shift(0, 0, 5, 55, 5), 5);
