@@ -20,6 +20,8 @@ public final class FaceTest {
         face();
         classesInside();
         words(source);
+        library(bare(source));
+        lengths(source.split("\n"));
         Due.end("FaceTest");
     }
 
@@ -91,9 +93,14 @@ public final class FaceTest {
         }
     }
 
-    private static void words(String source) {
-        String bare = source.replaceAll("(?s)/\\*.*?\\*/", " ").replaceAll("//[^\n]*", " ")
+    /** Without comments and texts. */
+    private static String bare(String source) {
+        return source.replaceAll("(?s)/\\*.*?\\*/", " ").replaceAll("//[^\n]*", " ")
             .replaceAll("\"[^\"]*\"", "\"\"");
+    }
+
+    private static void words(String source) {
+        String bare = bare(source);
         for (String word : RULED_OUT) {
             Due.holds("no " + word, !Pattern.compile("\\b" + word + "\\b").matcher(bare).find());
         }
@@ -101,5 +108,33 @@ public final class FaceTest {
         Due.holds("no texts joined by +", !bare.contains("\" +") && !bare.contains("+ \""));
         Due.holds("nothing of the system but arraycopy", !bare.replace("System.arraycopy", "").contains("System"));
         Due.holds("bytes 32 .. 126 alone", source.chars().allMatch(c -> c == '\n' || c >= 32 && c < 127));
+    }
+
+    private static void library(String source) {
+        Matcher calls = Pattern.compile("\\b(Math|Integer|Long|System|Arrays|String|List)\\.(\\w+)").matcher(source);
+        String free = " Math.max Math.min Math.abs Integer.bitCount System.arraycopy Long.MIN_VALUE ";
+        while (calls.find()) {
+            Due.holds(calls.group() + " is in the library", free.contains(" " + calls.group() + " "));
+        }
+        Matcher made = Pattern.compile("\\bnew (\\w+)").matcher(source);
+        while (made.find()) {
+            boolean own = source.contains(" class " + made.group(1) + " ");
+            Due.holds("new " + made.group(1), own || "int long".contains(made.group(1)));
+        }
+    }
+
+    /** By its indentation: a method ends at the first } that stands as far in as the method. */
+    private static void lengths(String[] lines) {
+        Pattern head = Pattern.compile("( {4}| {8})\\w[^=;]*\\(.*\\) \\{");
+        for (int k = 0; k < lines.length; k++) {
+            Matcher method = head.matcher(lines[k]);
+            if (method.matches() && !lines[k].trim().matches("(if|for|while|switch) .*")) {
+                int end = k;
+                while (end < lines.length - 1 && !lines[end].equals(method.group(1) + "}")) {
+                    end++;
+                }
+                Due.holds(lines[k].trim() + " has sixty lines at most", end - k < 60);
+            }
+        }
     }
 }
